@@ -40,7 +40,8 @@ public final class HollowShire {
         for (int s = 0; s < SHEETS; s++) {
             rows[s] = new Sheet();
         }
-        rules.takeFirstText();
+        rules.feedFirstText();
+        rules.takeTape();
     }
 
     // ---- the ground
@@ -349,7 +350,7 @@ public final class HollowShire {
         int falls = now.fallsOf[rock];
         int months = now.monthsOf[rock];
         int shared = greatestShared(falls, months);
-        if (falls == 0 || shared == 0) {
+        if (shared == 0) {
             return part;
         }
         return (part == 0 ? falls : months) / shared;
@@ -1218,16 +1219,16 @@ public final class HollowShire {
         }
 
         int kindAt(int t) {
-            return within(t, 0, tokens - 1) ? kind[t] : END;
+            return t >= 0 && t < tokens ? kind[t] : END;
         }
 
         int placeAt(int t) {
-            return within(t, 0, tokens - 1) ? place[t] : size;
+            return t >= 0 && t < tokens ? place[t] : size;
         }
 
         /** A number's worth, a name's place among the names. */
         int numberAt(int t) {
-            return within(t, 0, tokens - 1) ? number[t] : 0;
+            return t >= 0 && t < tokens ? number[t] : 0;
         }
 
         void split() {
@@ -1502,11 +1503,10 @@ public final class HollowShire {
             }
         }
 
-        void takeFirstText() {
+        void feedFirstText() {
             for (int i = 0; i < FIRST_TEXT.length(); i++) {
                 tape.put(FIRST_TEXT.charAt(i));
             }
-            takeTape();
         }
 
         /** Where the tape's fault is, -1 if it is a text now; the tape is empty then. */

@@ -125,6 +125,11 @@ public final class AheadTest {
         DUE.is("30 room 1000", x.plan(0, 1000, 1), Due.NO);
         DUE.is("30 0 months", x.plan(0, 0, 0), Due.NO);
         DUE.is("30 61 months", x.plan(0, 0, 61), Due.NO);
+        HollowShire none = new HollowShire();
+        none.sheet(0, 2, 0);
+        DUE.is("30 there are no houses", none.plan(0, 0, 1), 0);
+        Due.fill(x, 1, 2, 1, 0);
+        DUE.is("30 the first is no house", x.plan(1, 0, 1), Due.NO);
         x.sheet(1, 2, 9);
         DUE.is("30 nine", x.plan(1, 0, 1), Due.NO);
         x.sheet(1, 2, 8);
@@ -183,6 +188,8 @@ public final class AheadTest {
         DUE.is("30 none by three", x.planned(), 0);
         DUE.is("30 by four", x.plan(0, 4, 1), 23);
         DUE.is("30 the one", x.planned(), 4);
+        DUE.is("30 room for all, one is gone", x.plan(0, 999, 1), 23);
+        DUE.is("30 the one that goes", x.planned(), 4);
     }
 
     private static void promise31Planned() {

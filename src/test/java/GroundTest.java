@@ -14,6 +14,7 @@ public final class GroundTest {
         rainFillsCells();
         pumpsTakeWhatIsThere();
         waterFlowsAllAtOnce();
+        waterFlowsInTheLastRow();
         hollowsGrowByEachWater();
         hollowsGrowTo200();
         roofsBearByRockAndWater();
@@ -201,6 +202,17 @@ public final class GroundTest {
         edge.run(1);
         DUE.is("(3) rows end", edge.cellTold(8, 1), 50);
         DUE.is("(3) a corner has two sides", edge.cellTold(7, 1), 12);
+    }
+
+    private static void waterFlowsInTheLastRow() {
+        HollowShire x = new HollowShire();
+        x.rain(50);
+        x.pump(62);
+        x.pumping(0, 50);
+        x.run(1);
+        DUE.is("(3) from three sides", x.cellTold(62, 1), 18);
+        int[] beside = {61, 63, 54};
+        for (int c : beside) DUE.is("(3) beside", x.cellTold(c, 1), 44);
     }
 
     private static void hollowsGrowByEachWater() {

@@ -30,6 +30,10 @@ public final class HostTest {
         DUE.is("35 none", x.sheet(0, 0, 0), 1);
         DUE.is("35 no place", x.cell(0, 0, 1), -12);
         Due.fill(x, 0, 2, 5, 5, 5);
+        x.sheet(0, 2, 1);
+        x.lost(5, 50);
+        DUE.is("35 its number is 0 again", x.fit(0, 0), 0);
+        Due.fill(x, 0, 2, 5, 5, 5);
         x.sheet(0, 2, 3);
         // All are 0 again: cells 0, 0, 0 are no unlike ones; one 0 is cell 0.
         DUE.is("35 all 0", x.fit(0, 0), -2);
@@ -160,6 +164,8 @@ public final class HostTest {
         }
         DUE.is("39 sign 6", x.taken(0, 6, 0), -11);
         DUE.is("39 sign -1", x.taken(0, -1, 0), -11);
+        DUE.is("39 house -1", x.taken(1, -1, 6), -11);
+        DUE.is("39 warning -1", x.taken(2, -1, 7), -11);
         DUE.is("39 house 1", x.taken(1, 1, 6), -11);
         DUE.is("39 warning 1", x.taken(2, 1, 7), -11);
         DUE.is("39 far", x.taken(2, Integer.MIN_VALUE, 7), -11);

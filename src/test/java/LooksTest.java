@@ -5,10 +5,12 @@ public final class LooksTest {
     public static void main(String[] args) {
         promise22LooksRefuse();
         promise22Looks();
+        promise22LookAtCell0();
         promise23LookTold();
         promise24Often();
         promise25Warn();
         promise26Warned();
+        promise26InMonth0();
         promise26BehindAnImage();
         DUE.end("LooksTest");
     }
@@ -88,6 +90,13 @@ public final class LooksTest {
         DUE.is("22 all eight", x.lookTold(), 255);
         DUE.is("22 seven of eight", x.looks(3, 79991, 0), 1190);
         DUE.is("22 the first seven", x.lookTold(), 127);
+    }
+
+    private static void promise22LookAtCell0() {
+        HollowShire x = new HollowShire();
+        Due.fill(x, 0, 2, 0, 5, 63, 6);
+        DUE.is("22 cell 0", x.looks(0, 5, 0), 170);
+        DUE.is("22 cells 0 and 63", x.looks(0, 11, 0), 340);
     }
 
     private static void promise23LookTold() {
@@ -176,6 +185,21 @@ public final class LooksTest {
         DUE.is("26 none is older than 4", x.warned(4, 2), 0);
         DUE.is("26 old: both of 9, and 30", x.warned(2, 2), 3);
         DUE.is("26 never of it within 60", x.warned(60, 2), 0);
+    }
+
+    private static void promise26InMonth0() {
+        HollowShire x = new HollowShire();
+        x.ground(0, 0, 200);
+        x.image();
+        x.run(1);
+        DUE.is("26 no warning came true", x.warned(60, 0), 0);
+        DUE.is("26 missed", x.warned(60, 1), 1);
+        x.back();
+        x.warn(0);
+        x.run(3);
+        DUE.is("26 told and fell in month 0", x.warned(1, 0), 1);
+        DUE.is("26 none missed", x.warned(1, 1), 0);
+        DUE.is("26 none old", x.warned(1, 2), 0);
     }
 
     private static void promise26BehindAnImage() {

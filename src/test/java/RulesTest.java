@@ -6,6 +6,7 @@ public final class RulesTest {
         promise16Feed();
         promise17Text();
         promise17Faults();
+        promise17FullTapes();
         promise17FaultsOfOpenOnes();
         promise18Force();
         promise19Law();
@@ -104,11 +105,39 @@ public final class RulesTest {
         fault("build 12ab;", 8);
         fault("build rock2;", 10);
         fault("build 1 \u00e9;", 8);
+        fault("build rockz;", 6);
+        fault("build arock;", 6);
+        fault("build 1;move 1;owe 1;\0", 21);
+        fault("build 1;move 1;owe 1;\2", 21);
+        fault("build \2;move 1;owe 1;", 6);
+        fault("build \3;move 1;owe 1;", 6);
         fault("build \0;", 6);
         fault("build doubt least;", 12);
         fault("build 1", 7);
         fault("build", 5);
         fault("buil", 0);
+    }
+
+    private static void promise17FullTapes() {
+        StringBuilder marks = new StringBuilder();
+        for (int i = 0; i < 160; i++) marks.append(';');
+        HollowShire x = new HollowShire();
+        DUE.is("17 160 tokens", Due.text(x, marks.toString()), -100);
+        DUE.is("17 a fault at 0 is no text", x.count(7), 1);
+        StringBuilder sum = new StringBuilder("build 0");
+        while (sum.length() < 145) sum.append("+1");
+        sum.append(";move 2;owe 3; ");
+        DUE.is("17 160 bytes", sum.length(), 160);
+        DUE.is("17 a text of 160 bytes", Due.text(x, sum.toString()), 1);
+        x.force(1);
+        DUE.is("17 its sum", x.law(5, 0, 0), 69);
+        DUE.is("17 its last part", x.law(5, 2, 0), 3);
+        sum.setLength(159);
+        sum.append('1');
+        DUE.is("17 a fault at its end", Due.text(x, sum.toString()), -259);
+        sum.setLength(7);
+        while (sum.length() < 160) sum.append(" ");
+        DUE.is("17 it ends too early at 160", Due.text(x, sum.toString()), -260);
     }
 
     private static void promise17FaultsOfOpenOnes() {
@@ -169,6 +198,10 @@ public final class RulesTest {
         x.sign(1, 9, 16);
         DUE.is("19 doubt 28", x.law(9, 0, 0), 1);
         DUE.is("19 most 60", x.law(9, 1, 0), 0);
+        x.sign(2, 10, 45);
+        DUE.is("19 doubt 30", x.law(10, 0, 0), 0);
+        x.sign(3, 10, 62);
+        DUE.is("19 doubt 29", x.law(10, 0, 0), 1);
         x.ground(9, 2, 0);
         DUE.is("19 salt", x.law(9, 0, 0), 0);
         x.ground(9, 2, 200);
@@ -307,11 +340,15 @@ public final class RulesTest {
         DUE.is("21 all else", x.part(0, 1), 667);
         DUE.is("21 owe 0: firm", x.part(1, 0), 0);
         DUE.is("21 owe 0: owner", x.part(1, 1), 1001);
+        x.house(20, 99999, 0);
+        x.ground(20, 0, 200);
+        x.run(1);
         part(x, "month + 1", 1, 750, 251);
         part(x, "1", 2, 0, 1);
         part(x, "-5", 1, 0, 1001);
         part(x, "99", 1, 990, 11);
-        part(x, "100", 1, 990, 11);
+        DUE.is("21 the bound is 99: firm", x.part(3, 0), 98999);
+        part(x, "100", 3, 98999, 1000);
         DUE.is("21 full of texts", x.count(7), 6);
     }
 

@@ -11,6 +11,7 @@ public final class SignsTest {
         promise14FitRefuses();
         promise14Fit();
         promise14FitByLostWaters();
+        promise14FitByEightLostWaters();
         promise15FitTold();
         DUE.end("SignsTest");
     }
@@ -45,6 +46,11 @@ public final class SignsTest {
         DUE.is("10 once", x.mend(1, 13), -3);
         DUE.is("10 ahead of it", x.signTold(1, 3, 4), 13);
         DUE.is("10 from then on", x.signTold(1, 3, 5), 99);
+        HollowShire first = new HollowShire();
+        first.sign(1, 9, 12);
+        first.mend(0, 20);
+        DUE.is("10 in month 0", first.signTold(0, 3, 0), 20);
+        DUE.is("10 once in month 0", first.mend(0, 20), -3);
     }
 
     private static void promise11SignTold() {
@@ -112,6 +118,10 @@ public final class SignsTest {
         DUE.is("12 the trusted most", x.span(9, 2, 3), 25);
         x.sign(1, 9, 13);
         DUE.is("12 the trusted too", x.span(9, 2, 2), -3);
+        x.sign(2, 20, 55);
+        x.sign(1, 20, 35);
+        DUE.is("12 least is most", x.span(20, 2, 0), 70);
+        DUE.is("12 most is least", x.span(20, 2, 1), 70);
     }
 
     private static void promise13Lost() {
@@ -218,6 +228,17 @@ public final class SignsTest {
         DUE.is("14 rivals", few.fitTold(0, 3), 3);
         DUE.is("14 the last of the sheet", few.fitTold(2, 0), 100);
         DUE.is("14 its least", few.fitTold(2, 1), 0);
+    }
+
+    private static void promise14FitByEightLostWaters() {
+        HollowShire x = new HollowShire();
+        Due.fill(x, 0, 2, 9, 10, 17, 8, 1);
+        for (int k = 0; k < 8; k++) x.lost(9, 10 + 40 * k);
+        DUE.is("14 the last of eight: 290", x.fit(0, 0), 3);
+        DUE.is("14 the first cell", x.fitTold(0, 0), 0);
+        DUE.is("14 the last cell", x.fitTold(4, 0), 100);
+        DUE.is("14 three of five of 100", x.fitTold(0, 3), 10);
+        DUE.is("14 sure of none", x.fitTold(2, 1), 0);
     }
 
     private static void promise15FitTold() {
