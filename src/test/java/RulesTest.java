@@ -107,6 +107,7 @@ public final class RulesTest {
         fault("build 1 \u00e9;", 8);
         fault("build rockz;", 6);
         fault("build arock;", 6);
+        fault("build xost;", 6);
         fault("build 1;move 1;owe 1;\0", 21);
         fault("build 1;move 1;owe 1;\2", 21);
         fault("build \2;move 1;owe 1;", 6);

@@ -217,6 +217,10 @@ public final class SignsTest {
         DUE.is("14 not near aslant", near.fit(1, 0), 1);
         near.lost(27, 101);
         DUE.is("14 at itself", near.fit(1, 0), -3);
+        HollowShire far = new HollowShire();
+        Due.fill(far, 0, 2, 63);
+        for (int k = 0; k < 8; k++) far.lost(0, 10);
+        DUE.is("14 none of eight near", far.fit(0, 0), 0);
         HollowShire border = new HollowShire();
         Due.fill(border, 0, 2, 8);
         border.lost(7, 50);
