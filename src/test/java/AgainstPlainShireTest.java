@@ -3,7 +3,8 @@
  * for arguments within, at and beyond all bounds. What the class throws ends the test.
  */
 public final class AgainstPlainShireTest {
-    private static final int RUNS = 1500, CALLS = 512;
+    // 512 calls is all that an object has: the last ones look at what the others left.
+    private static final int RUNS = 2000, CALLS = 512, LOOKING = 50, CALLS_IN_ONE = 70;
     private static final String[] WORDS = {"doubt", "least", "most", "rock", "people", "pump", "fell", "month"};
     private static final String[] PIECES = {"(", ")", "not ", "-", "+", "*", "<", "=", " and ", " or ", ";", "build ", "owe ",
         "12345", "9999", "0", "x", "doubts", "A", "\n", "\u00e9", "7", "most", "- - - -", "((((", "not not not "};
@@ -13,6 +14,7 @@ public final class AgainstPlainShireTest {
     private HollowShire shire;
     private final StringBuilder told = new StringBuilder();
     private int wrong = 0;
+    private int asked;
     private static final int[] ANSWERED = new int[64];
 
     public static void main(String[] args) {
@@ -52,14 +54,17 @@ public final class AgainstPlainShireTest {
         plain = new PlainShire();
         shire = new HollowShire();
         told.setLength(0);
+        asked = 0;
         // Each run leans to other calls, so that some fill all lists and others let many months pass.
         int[] weight = new int[40];
-        for (int p = 2; p <= 39; p++) weight[p] = 1 + next(6) * next(3);
+        int all = 0;
+        for (int p = 2; p <= 39; p++) {
+            weight[p] = next(3) == 0 ? 0 : 1 + next(6) * next(4);
+            all += weight[p];
+        }
         if (seed % 3 == 0) prepareGround();
-        for (int call = 0; call < CALLS && wrong == 0; call++) {
+        while (asked < CALLS - LOOKING - CALLS_IN_ONE && wrong == 0) {
             int p = 2;
-            int all = 0;
-            for (int w : weight) all += w;
             int turn = next(all);
             for (p = 2; turn >= weight[p]; p++) turn -= weight[p];
             if (p == 17 && next(3) > 0) feedText(); else call(p);
@@ -75,13 +80,17 @@ public final class AgainstPlainShireTest {
     }
 
     private void tellAll() {
-        for (int c = 0; c < 64; c++) for (int w = 0; w < 5; w++) due("cellTold", plain.cellTold(c, w), shire.cellTold(c, w), c, w);
-        for (int h = 0; h < 14; h++) for (int w = 0; w < 5; w++) due("houseTold", plain.houseTold(h, w), shire.houseTold(h, w), h, w);
         for (int w = 0; w < 12; w++) due("count", plain.count(w), shire.count(w), w);
         for (int r = 0; r < 4; r++) for (int w = 0; w < 2; w++) due("often", plain.often(r, w), shire.often(r, w), r, w);
+        while (asked < CALLS) {
+            int c = asked % 64, h = next(14), w = next(5);
+            if (asked % 5 > 0) due("cellTold", plain.cellTold(c, w), shire.cellTold(c, w), c, w);
+            else due("houseTold", plain.houseTold(h, w), shire.houseTold(h, w), h, w);
+        }
     }
 
     private void due(String name, long want, long got, long... args) {
+        asked++;
         told.append(name).append('(');
         for (int i = 0; i < args.length; i++) told.append(i == 0 ? "" : ", ").append(args[i]);
         told.append(") = ").append(got).append('\n');

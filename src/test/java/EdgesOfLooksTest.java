@@ -168,6 +168,11 @@ public final class EdgesOfLooksTest {
             DUE.is("fell in " + t[0] + ", within " + t[1], x.warned(t[1], 0), t[2]);
             DUE.is("missed", x.warned(t[1], 1), 1 - t[2]);
         }
+        HollowShire first = new HollowShire();
+        first.warn(0);
+        first.ground(0, 0, 200);
+        first.run(1);
+        DUE.is("told and fell in month 0", first.warned(1, 0), 1);
         HollowShire x = new HollowShire();
         x.image();
         x.run(1);
@@ -193,6 +198,10 @@ public final class EdgesOfLooksTest {
         DUE.is("60 ago, by 59", x.warned(59, 2), 1);
         x.run(1);
         DUE.is("61 ago, by 60", x.warned(60, 2), 1);
+        for (int i = 0; i < 3; i++) x.warn(10 + i);
+        x.run(2);
+        DUE.is("three of 2 ago, by 1, and the first", x.warned(1, 2), 4);
+        DUE.is("the first alone, by 2", x.warned(2, 2), 1);
         HollowShire fell = warnedOf(7, 20);
         DUE.is("came true within 2", fell.warned(2, 2), 0);
         DUE.is("not within 1", fell.warned(1, 2), 1);
@@ -229,6 +238,8 @@ public final class EdgesOfLooksTest {
         DUE.is("with another cell", looks(x, 15, 9, 5, 9, 5, 10, 5), 340);
         DUE.is("not all three", x.lookTold(), 5);
         DUE.is("two prices for two cells", looks(x, 9, 9, 5, 9, 5, 10, 5), 170);
+        DUE.is("with another cell between", looks(x, 15, 9, 5, 10, 5, 9, 5), 340);
+        DUE.is("not all three", x.lookTold(), 3);
         HollowShire zero = new HollowShire();
         DUE.is("cell 0 told twice", looks(zero, 9, 0, 1, 0, 1), 170);
         DUE.is("cell 63 told twice", looks(zero, 9, 63, 1, 63, 1), 170);

@@ -270,6 +270,15 @@ public final class EdgesOfSignsTest {
         DUE.is("400 of five", fitOf(four, 9, 10, 17, 8, 1), 4);
         DUE.is("400 of four", fitOf(four, 9, 10, 17, 8), 4);
         DUE.is("400 of three", fitOf(four, 9, 10, 17), -3);
+        HollowShire far = new HollowShire();
+        far.lost(0, 10);
+        DUE.is("lost at cell 0, far from 63", fitOf(far, 63), 0);
+        far.lost(27, 101);
+        DUE.is("what far cells have does not count", fitOf(far, 27, 40, 50, 60, 63), -3);
+        HollowShire eight = new HollowShire();
+        for (int i = 0; i < 8; i++) eight.lost(9, i < 7 ? 1 : 26);
+        DUE.is("the last of eight", fitOf(eight, 9), 1);
+        DUE.is("its size", eight.fitTold(0, 0), 50);
         HollowShire each = new HollowShire();
         each.lost(8, 10);
         each.lost(10, 25);
@@ -309,7 +318,7 @@ public final class EdgesOfSignsTest {
         later.lost(9, 60);
         later.sign(WEIGH, 9, 10);
         later.sign(LOOK, 10, 35);
-        // 10 .. is 25 or 50: 25 and 50 ahead of 50 and 10, which is less together.
+        // Cell 10 has 25 or 50: 25 and 50 stand ahead of 50 and 10, which are less together.
         DUE.is("the least, which come behind others", fitOf(later, 10, 9), 2);
         best(later, 50, 10);
         HollowShire three = new HollowShire();

@@ -203,7 +203,7 @@ public final class EdgesOfTextsTest {
             worth(names[i], worth[i]);
             // A letter less or more, another first or last one: no name.
             String n = names[i];
-            for (String s : new String[] {n.substring(1), n.substring(0, n.length() - 1), n + "s", "a" + n, "z" + n.substring(1),
+            for (String s : new String[] {n.substring(1), n.substring(0, n.length() - 1), n + "s", n + "a", n + "z", "a" + n, "z" + n, "z" + n.substring(1),
                 n.substring(0, n.length() - 1) + "z"}) faultOf(s, 0);
             faultOf(n.toUpperCase(), 0);
         }
@@ -370,6 +370,13 @@ public final class EdgesOfTextsTest {
             DUE.is("text " + t, x.law(0, 0, 0), t);
         }
         DUE.is("there is no text 6", x.force(6), -2);
+        HollowShire shorter = new HollowShire();
+        Due.text(shorter, "build 1;move 2;owe -3;");
+        Due.text(shorter, "build 4;move 5;owe 6;");
+        shorter.force(2);
+        for (int p = 0; p < 3; p++) DUE.is("a text behind a longer one", shorter.law(0, p, 0), 4 + p);
+        shorter.force(1);
+        for (int p = 0; p < 3; p++) DUE.is("the longer one", shorter.law(0, p, 0), p < 2 ? p + 1 : -3);
     }
 
     private static void firstText() {
@@ -480,6 +487,9 @@ public final class EdgesOfTextsTest {
         parts(99, 0, "99", 98);
         parts(1000, 0, GREATEST, 990);
         parts(1000, 0, GREATEST + "+1", 0);
+        parts(99999, 0, "98", 98988);
+        parts(99999, 0, "99", 98999);
+        parts(99999, 0, "100", 98999);
         parts(99999, 99, "99", 197009);
         parts(99999, 99, "98", 196988);
     }
