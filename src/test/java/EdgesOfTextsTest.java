@@ -630,6 +630,11 @@ public final class EdgesOfTextsTest {
         DUE.is("63 is moved, 0 is gone", x.moved(2), 1L << 31 | 1L << 32 | 1L << 62);
         x.house(63, 1, 1);
         DUE.is("others came", x.moved(2), 1L << 31 | 1L << 32 | 1L << 62 | 1L << 63);
+        // These two cells alone are the number that NO is; the bits stand all the same.
+        HollowShire last = ruled("build 0;move 1;owe 0;");
+        last.house(62, 1, 1);
+        last.house(63, 1, 1);
+        DUE.is("62 and 63", last.moved(0), 1L << 62 | 1L << 63);
         HollowShire by = ruled("build 0;move least;owe 0;");
         for (int c = 0; c < 3; c++) by.house(c, 1, 5);
         by.run(1);
